@@ -686,7 +686,7 @@ public final class ClaviTuner {
         note(TOO_MANY, name);
       }
       take(Kind.ON);
-      Course course = toldCourse();
+      Course course = toldCourse(take(Kind.NAME));
       take(Kind.AT);
       int at = numberUpTo(MAX_AT);
       if (firstError == 0 && course != null) {
@@ -700,10 +700,10 @@ public final class ClaviTuner {
       if (draft.tunes.size() >= MAX_TUNES) {
         note(TOO_MANY, tune);
       }
-      Key key = toldKey();
+      Key key = toldKey(take(Kind.NAME));
       take(Kind.FROM);
-      Token fromName = now;
-      Key from = toldKey();
+      Token fromName = take(Kind.NAME);
+      Key from = toldKey(fromName);
       if (key != null && from != null && key.course.number == from.course.number) {
         note(SAME_COURSE, fromName);
       }
@@ -763,7 +763,7 @@ public final class ClaviTuner {
         test(out, depth + 1);
         take(Kind.CLOSE_SQUARE);
       } else if (accept(Kind.BROKEN)) {
-        Course course = toldCourse();
+        Course course = toldCourse(take(Kind.NAME));
         out.add(new Step(Kind.BROKEN, course == null ? NOBODY : course.number, 0));
       } else {
         sum(out, depth);
@@ -813,10 +813,11 @@ public final class ClaviTuner {
       } else if (accept(Kind.DAY)) {
         out.add(new Step(Kind.DAY, 0, 0));
       } else if (accept(Kind.PITCH)) {
-        out.add(new Step(Kind.PITCH, numberOf(toldKey()), 0));
+        out.add(new Step(Kind.PITCH, numberOf(toldKey(take(Kind.NAME))), 0));
       } else if (accept(Kind.GAP)) {
-        int first = numberOf(toldKey());
-        out.add(new Step(Kind.GAP, first, numberOf(toldKey())));
+        int first = numberOf(toldKey(take(Kind.NAME)));
+        int second = numberOf(toldKey(take(Kind.NAME)));
+        out.add(new Step(Kind.GAP, first, second));
       } else if (is(Kind.MINUS)) {
         takeDeeper(Kind.MINUS, depth);
         value(out, depth + 1);
@@ -844,8 +845,7 @@ public final class ClaviTuner {
       out.add(new Step(kind, 0, 0));
     }
 
-    private Course toldCourse() {
-      Token name = take(Kind.NAME);
+    private Course toldCourse(Token name) {
       Course course = draft.courseNamed(name.text);
       if (course == null) {
         note(NOT_TOLD, name);
@@ -853,8 +853,7 @@ public final class ClaviTuner {
       return course;
     }
 
-    private Key toldKey() {
-      Token name = take(Kind.NAME);
+    private Key toldKey(Token name) {
       Key key = draft.keyboard.keyNamed(name.text);
       if (key == null) {
         note(NOT_TOLD, name);
@@ -1256,11 +1255,19 @@ public final class ClaviTuner {
         Step step = steps.get(i);
         switch (step.kind) {
           case NUMBER:
+            push(step.first);
+            break;
           case DAY:
+            push(day);
+            break;
           case PITCH:
+            push(Math.max(keyboard.pitchOf(step.first), 0));
+            break;
           case GAP:
+            push(gap(keyboard.pitchOf(step.first), keyboard.pitchOf(step.second)));
+            break;
           case BROKEN:
-            push(leaf(step, day));
+            push(isBroken(step.first) ? 1 : 0);
             break;
           case NEGATE:
             push(-pop());
@@ -1277,21 +1284,8 @@ public final class ClaviTuner {
       return pop();
     }
 
-    private int leaf(Step step, int day) {
-      switch (step.kind) {
-        case NUMBER:
-          return step.first;
-        case DAY:
-          return day;
-        case PITCH:
-          return Math.max(keyboard.pitchOf(step.first), 0);
-        case GAP:
-          int low = keyboard.pitchOf(step.first);
-          int high = keyboard.pitchOf(step.second);
-          return low == SILENT || high == SILENT ? 0 : high - low;
-        default:
-          return isBroken(step.first) ? 1 : 0;
-      }
+    private static int gap(int low, int high) {
+      return low == SILENT || high == SILENT ? 0 : high - low;
     }
 
     private boolean isBroken(int course) {

@@ -214,6 +214,11 @@ final class FactsTest {
       test("10" + relations[i] + "9", due[i][2]);
       test("65536*32768" + relations[i] + "0", due[i][0]);
     }
+    ClaviTuner first = Rig.taught(LIST + "tune g from e third up when broken c;");
+    RIG.due("broken c, c is not", first.tune(5, 5), 0);
+    first.turn(0, 600);
+    first.turn(0, 600);
+    RIG.due("broken c, c is", first.tune(5, 5), 1);
     test("broken x", 1);
     test("broken c", 0);
     test("not broken x", 0);

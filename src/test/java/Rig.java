@@ -28,13 +28,20 @@ final class Rig {
     try {
       call.answer();
     } catch (RuntimeException e) {
-      thrown = e.getClass().getName();
+      thrown = e.getClass().getName() + thrownBy(e);
     }
     if (!thrown.equals(exception.getName())) {
       tell(what + " threw " + thrown + ", due is " + exception.getName());
     }
     due("digest() behind the refused " + what, x.digest(), digest);
     due("errorAt() behind the refused " + what, x.errorAt(), errorAt);
+  }
+
+  /** Nothing for an exception that the program throws itself, as it has to. */
+  private static String thrownBy(RuntimeException e) {
+    StackTraceElement[] trace = e.getStackTrace();
+    String by = trace.length == 0 ? "the machine" : trace[0].getClassName();
+    return by.startsWith("ClaviTuner") ? "" : " of " + by;
   }
 
   void tell(String fault) {

@@ -75,6 +75,14 @@ final class SoundTest {
       x.string(0, 100 * i + 50);
       RIG.due("beats at " + (100 * i + 50), x.beats(0, 0, 3), half[i]);
     }
+    // Four octaves higher an error of the table by 1 shows.
+    int[] speeds = {
+      1000, 1059, 1122, 1189, 1260, 1335, 1414, 1498, 1587, 1682, 1782, 1888, 2000
+    };
+    for (int i = 0; i <= 12; i++) {
+      x.string(0, 4800 + 100 * i);
+      RIG.due("beats at " + (4800 + 100 * i), x.beats(0, 0, 3), speeds[i] * 16 * 12 / 20);
+    }
     int[][] others = {
       {1, 600}, {699, 898}, {1199, 1198}, {1200, 1200}, {1201, 1200}, {2400, 2400}, {3650, 4939},
       {4799, 9590}, {6000, 19200}, {5999, 19180}

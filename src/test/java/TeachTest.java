@@ -135,6 +135,9 @@ final class TeachTest {
     fails(1, TWO + tune + "less pitch 1", "1");
     fails(1, TWO + tune + "when ;", ";");
     fails(1, TWO + tune + "when 1;", ";");
+    fails(1, TWO + tune + "when 1 2;", "2");
+    fails(1, TWO + tune + "when day pitch k;", "pitch");
+    fails(1, TWO + tune + "when day and 1 = 1;", "and");
     fails(1, TWO + tune + "when (1<2)", "<");
     fails(1, TWO + tune + "when [1];", "]");
     fails(1, TWO + tune + "when 1<2<3", "<");
