@@ -6,6 +6,14 @@ final class Rig {
     long answer();
   }
 
+  interface Asked {
+    long of(ClaviTuner x);
+  }
+
+  interface Maker {
+    ClaviTuner make();
+  }
+
   private int wrong = 0;
 
   void due(String what, long got, long want) {
@@ -20,21 +28,70 @@ final class Rig {
     }
   }
 
+  void dueText(String what, String got, String want) {
+    if (!got.equals(want)) {
+      tell(what + " is " + got + ", due is " + want);
+    }
+  }
+
   /** The call has to throw just this, and to leave all that can be asked as it is. */
   void refused(String what, ClaviTuner x, Class<?> exception, Call call) {
     long digest = x.digest();
     int errorAt = x.errorAt();
-    String thrown = "nothing";
-    try {
-      call.answer();
-    } catch (RuntimeException e) {
-      thrown = e.getClass().getName() + thrownBy(e);
-    }
-    if (!thrown.equals(exception.getName())) {
-      tell(what + " threw " + thrown + ", due is " + exception.getName());
-    }
+    dueText("what " + what + " throws", thrown(call), exception.getName());
     due("digest() behind the refused " + what, x.digest(), digest);
     due("errorAt() behind the refused " + what, x.errorAt(), errorAt);
+  }
+
+  /** As refused, and it makes no difference to anything that comes later, either. */
+  void refusedForGood(String what, Maker maker, Class<?> exception, Asked call) {
+    ClaviTuner x = maker.make();
+    dueText("what " + what + " throws", thrown(() -> call.of(x)), exception.getName());
+    sameFromNowOn("the refused " + what, x, maker.make());
+  }
+
+  void notRefused(String what, Maker maker, Asked call) {
+    ClaviTuner x = maker.make();
+    dueText("what " + what + " throws", thrown(() -> call.of(x)), "nothing");
+  }
+
+  /** The two cannot be told apart: not now, not as they go on, and not by their tapes. */
+  void sameFromNowOn(String behind, ClaviTuner x, ClaviTuner twin) {
+    dueText("all behind " + behind, all(x), all(twin));
+    due("run() behind " + behind, x.run(), twin.run());
+    due("pass(3) behind " + behind, x.pass(3), twin.pass(3));
+    dueText("all later than " + behind, all(x), all(twin));
+    due("teach() behind " + behind, x.teach(), twin.teach());
+    dueText("all behind teach() and " + behind, all(x), all(twin));
+  }
+
+  /** All that can be asked; digest() has what count, course, key, tune, wolf and sweetest tell. */
+  private static String all(ClaviTuner x) {
+    StringBuilder s = new StringBuilder();
+    s.append(x.digest()).append(' ').append(x.errorAt()).append(' ').append(x.mean());
+    for (int what = 0; what <= 4; what++) {
+      s.append(' ').append(x.would(what));
+    }
+    int tunes = x.count(5);
+    for (int tune = 0; tune < tunes; tune++) {
+      s.append(' ').append(x.without(tune));
+    }
+    s.append(' ').append(x.temper());
+    int keys = x.count(4);
+    for (int key = 1; key < keys; key++) {
+      s.append(' ').append(x.beats(key - 1, key, key % 4));
+      s.append(' ').append(x.lasts(key - 1, key, key % 4, 200));
+    }
+    return s.toString();
+  }
+
+  private static String thrown(Call call) {
+    try {
+      call.answer();
+      return "nothing";
+    } catch (RuntimeException e) {
+      return e.getClass().getName() + thrownBy(e);
+    }
   }
 
   /** Nothing for an exception that the program throws itself, as it has to. */
