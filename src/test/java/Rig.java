@@ -57,18 +57,25 @@ final class Rig {
 
   /** The two cannot be told apart: not now, not as they go on, and not by their tapes. */
   void sameFromNowOn(String behind, ClaviTuner x, ClaviTuner twin) {
+    due("errorAt() behind " + behind, x.errorAt(), twin.errorAt());
+    sameButErrorAt(behind, x, twin);
+  }
+
+  /** As sameFromNowOn, but for what errorAt() tells until the next teach(). */
+  void sameButErrorAt(String behind, ClaviTuner x, ClaviTuner twin) {
     dueText("all behind " + behind, all(x), all(twin));
     due("run() behind " + behind, x.run(), twin.run());
     due("pass(3) behind " + behind, x.pass(3), twin.pass(3));
     dueText("all later than " + behind, all(x), all(twin));
     due("teach() behind " + behind, x.teach(), twin.teach());
+    due("errorAt() of that teach()", x.errorAt(), twin.errorAt());
     dueText("all behind teach() and " + behind, all(x), all(twin));
   }
 
-  /** All that can be asked; digest() has what count, course, key, tune, wolf and sweetest tell. */
+  /** What can be asked; digest() has what count, course, key, tune, wolf and sweetest tell. */
   private static String all(ClaviTuner x) {
     StringBuilder s = new StringBuilder();
-    s.append(x.digest()).append(' ').append(x.errorAt()).append(' ').append(x.mean());
+    s.append(x.digest()).append(' ').append(x.mean());
     for (int what = 0; what <= 4; what++) {
       s.append(' ').append(x.would(what));
     }
