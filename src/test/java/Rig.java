@@ -1,5 +1,3 @@
-import java.nio.charset.StandardCharsets;
-
 /** Compares answers with those that are due, and ends a test with exit code 1 if one was wrong. */
 final class Rig {
   interface Call {
@@ -97,15 +95,15 @@ final class Rig {
       call.answer();
       return "nothing";
     } catch (RuntimeException e) {
-      return e.getClass().getName() + thrownBy(e);
+      return e.getClass().getName() + notBy("ClaviTuner", e);
     }
   }
 
-  /** Nothing for an exception that the program throws itself, as it has to. */
-  private static String thrownBy(RuntimeException e) {
+  /** Nothing for an exception that this class or one inside it throws itself; else who does. */
+  static String notBy(String thrower, RuntimeException e) {
     StackTraceElement[] trace = e.getStackTrace();
     String by = trace.length == 0 ? "the machine" : trace[0].getClassName();
-    return by.startsWith("ClaviTuner") ? "" : " of " + by;
+    return by.startsWith(thrower) ? "" : " of " + by;
   }
 
   void tell(String fault) {
@@ -121,17 +119,21 @@ final class Rig {
   }
 
   static void feed(ClaviTuner x, String text) {
-    byte[] bytes = text.getBytes(StandardCharsets.ISO_8859_1);
     int before = x.count(10);
-    for (int i = 0; i < bytes.length; i += 20) {
-      int[] n = new int[5];
-      for (int j = 0; j < 20; j++) {
-        int b = i + j < bytes.length ? bytes[i + j] & 255 : '#';
-        n[j / 4] = n[j / 4] << 8 | b;
-      }
+    for (int i = 0; i < text.length(); i += 20) {
+      int[] n = fiveNumbers(text, i);
       x.feed(n[0], n[1], n[2], n[3], n[4]);
     }
-    x.trim(before + bytes.length);
+    x.trim(before + text.length());
+  }
+
+  static int[] fiveNumbers(String text, int from) {
+    int[] n = new int[5];
+    for (int i = 0; i < 20; i++) {
+      int b = from + i < text.length() ? text.charAt(from + i) & 255 : '#';
+      n[i / 4] = n[i / 4] << 8 | b;
+    }
+    return n;
   }
 
   static int teach(ClaviTuner x, String text) {
